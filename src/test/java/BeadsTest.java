@@ -201,6 +201,7 @@ public final class BeadsTest {
 
     private static void promise11() {
         BeadSpirals x = threeStrings();
+        Check.undoable("crush ahead of strings", x, () -> x.crush(1));
         Check.due("crush 1", x.crush(1), 5);
         Check.dueText("beads", Check.beads(x), "abccc");
         Check.dueText("begins", Check.begins(x), "0 1 2");
@@ -245,6 +246,15 @@ public final class BeadsTest {
         Check.due("crush the only bead of string 0", y.crush(0), 2);
         Check.dueText("begins", Check.begins(y), "0");
         Check.dueText("beads", Check.beads(y), "cc");
+        BeadSpirals z = Check.rich();
+        z.string(0, 1);
+        z.join();
+        z.string(1, 2);
+        z.join();
+        z.string(2, 1);
+        Check.undoable("crush with string 0", z, () -> z.crush(0));
+        Check.due("crush with string 0", z.crush(0), 3);
+        Check.dueText("begins", Check.begins(z), "0 2");
     }
 
     private static void promise12() {

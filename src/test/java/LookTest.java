@@ -120,6 +120,12 @@ public final class LookTest {
         Check.dueAll("colour 1", what -> x.colour(1, what), 6, 10, 4, 0, 2, 2);
         Check.dueAll("colour 2", what -> x.colour(2, what), 4, 5, 0, 1, 1, 0);
         Check.dueAll("colour 5", what -> x.colour(5, what), 0, 0, 0, 0, 0, 0);
+        BeadSpirals y = Check.richWith("ab", "babc2b");
+        y.unpick(1);
+        y.crush(4);
+        Check.due("wrong of 1, the first and not those that are off", y.colour(1, 5), 2);
+        Check.due("strung of 1", y.colour(1, 2), 2);
+        Check.due("wrong of 2", y.colour(2, 5), 1);
         Check.argument("colour -1", x, () -> x.colour(-1, 0));
         Check.argument("colour 6", x, () -> x.colour(6, 0));
         Check.argument("colour of what -1", x, () -> x.colour(0, -1));

@@ -74,6 +74,12 @@ public final class PlanTest {
         z.set(2, 16);
         Check.due("not the first that is possible", z.plan(27, 1), 11);
         Check.due("plan does not look at the beads", z.count(2), 0);
+        BeadSpirals near = Check.withChart("ba4ba5b");
+        near.set(0, 12);
+        near.set(2, 5);
+        Check.due("a string of one bead: strings", near.plan(11, -1), 3);
+        Check.due("a string of one bead: string 1", near.plan(11, 1), 1);
+        Check.due("a string of one bead: string 2", near.plan(11, 2), 6);
     }
 
     private static void promise25Refuses() {
@@ -140,6 +146,9 @@ public final class PlanTest {
         Check.due("bestTurn: as many wrong as now", bestTurnOf("ab", "a2ba"), -1);
         Check.due("bestTurn of eleven columns", bestTurnOf("a9bc", "12a"), -1);
         Check.due("bestTurn of ten columns", bestTurnOf("a8bc", "6a"), 4);
+        BeadSpirals less = Check.richWith("abababababab", "2ab");
+        less.unpick(1);
+        Check.due("bestTurn does not look at beads that are off", less.bestTurn(), -1);
         BeadSpirals x = Check.richWith("abc/def", "cbacba");
         long before = x.digest();
         x.bestTurn();
@@ -154,6 +163,7 @@ public final class PlanTest {
         Check.dueDouble("wrongShare without beads", new BeadSpirals().wrongShare(), 0.0);
         Check.dueDouble("no bead wrong", Check.richWith("ab", "ab").wrongShare(), 0.0);
         Check.dueDouble("all wrong", Check.richWith("ab", "3c").wrongShare(), 1.0);
+        Check.dueDouble("the only one wrong", Check.richWith("ab", "c").wrongShare(), 1.0);
         Check.dueDouble("1 of 3", Check.richWith("ab", "abc").wrongShare(), 1.0 / 3.0);
         Check.dueDouble("2 of 7", Check.richWith("a", "2b5a").wrongShare(), 2.0 / 7.0);
         Check.dueDouble("1 of 240", Check.richWith("a", "b60a60a60a59a").wrongShare(), 1.0 / 240.0);
