@@ -14,7 +14,7 @@ public final class LookTest {
     }
 
     private static void promise17() {
-        BeadSpirals x = Check.withChart("abc/def");
+        Workshop x = Workshop.withChart("abc/def");
         for (int row = 0; row < 2; row++) {
             for (int column = 0; column < 3; column++) {
                 Check.due("cell", x.cell(row, column), 3 * row + column);
@@ -29,7 +29,7 @@ public final class LookTest {
     }
 
     private static void promise18() {
-        BeadSpirals x = Check.withChart("abcd/bcde/cdef");
+        Workshop x = Workshop.withChart("abcd/bcde/cdef");
         // around 6, slant 1: bead 14 is in round 2, so in row 2, column (2 + 2) modulo 4
         Check.dueAll("pattern 14", what -> x.pattern(14, what), 2, 2, 2, 0);
         Check.dueAll("pattern 0", what -> x.pattern(0, what), 0, 0, 0, 0);
@@ -48,7 +48,7 @@ public final class LookTest {
     }
 
     private static void promise18Refuses() {
-        BeadSpirals x = new BeadSpirals();
+        Workshop x = new Workshop();
         Check.argument("pattern -1", x, () -> x.pattern(-1, 0));
         Check.argument("pattern 240", x, () -> x.pattern(240, 0));
         Check.argument("pattern of what -1", x, () -> x.pattern(0, -1));
@@ -58,8 +58,8 @@ public final class LookTest {
     }
 
     /** Strings from 0, 3 and 4, of which the last one is empty; beads "acab" under "ab". */
-    private static BeadSpirals small() {
-        BeadSpirals x = Check.richWith("ab", "aca");
+    private static Workshop small() {
+        Workshop x = Workshop.richWith("ab", "aca");
         x.join();
         x.string(1, 1);
         x.join();
@@ -67,7 +67,7 @@ public final class LookTest {
     }
 
     private static void promise19() {
-        BeadSpirals x = small();
+        Workshop x = small();
         Check.dueAll("bead 0", what -> x.bead(0, what), 0, 0, 0, 0);
         Check.dueAll("bead 1", what -> x.bead(1, what), 2, 1, 0, 1);
         Check.dueAll("bead 2", what -> x.bead(2, what), 0, 0, 0, 2);
@@ -86,7 +86,7 @@ public final class LookTest {
     }
 
     private static void promise20() {
-        BeadSpirals x = small();
+        Workshop x = small();
         Check.dueAll("strand 0", what -> x.strand(0, what), 0, 3, -1, 1);
         Check.dueAll("strand 1", what -> x.strand(1, what), 3, 1, 0, 0);
         Check.dueAll("strand 2", what -> x.strand(2, what), 4, 0, 1, 0);
@@ -107,11 +107,11 @@ public final class LookTest {
     }
 
     private static void promise21() {
-        BeadSpirals x = Check.withChart("aab/bca");
+        Workshop x = Workshop.withChart("aab/bca");
         x.buy(0, 20);
         x.buy(1, 10);
         x.buy(2, 5);
-        Check.type(x, "3a4b2c").stringRow();
+        x.retype("3a4b2c").stringRow();
         x.crush(0);
         x.crush(7);
         x.unpick(1);
@@ -120,7 +120,7 @@ public final class LookTest {
         Check.dueAll("colour 1", what -> x.colour(1, what), 6, 10, 4, 0, 2, 2);
         Check.dueAll("colour 2", what -> x.colour(2, what), 4, 5, 0, 1, 1, 0);
         Check.dueAll("colour 5", what -> x.colour(5, what), 0, 0, 0, 0, 0, 0);
-        BeadSpirals y = Check.richWith("ab", "babc2b");
+        Workshop y = Workshop.richWith("ab", "babc2b");
         y.unpick(1);
         y.crush(4);
         Check.due("wrong of 1, the first and not those that are off", y.colour(1, 5), 2);
@@ -135,11 +135,11 @@ public final class LookTest {
     }
 
     private static void promise22() {
-        BeadSpirals x = Check.withChart("aab/bca");
+        Workshop x = Workshop.withChart("aab/bca");
         x.buy(0, 20);
         x.buy(1, 10);
         x.buy(2, 5);
-        Check.type(x, "3a4b").stringRow();
+        x.retype("3a4b").stringRow();
         x.join();
         x.string(2, 2);
         x.join();
@@ -148,8 +148,8 @@ public final class LookTest {
         x.unpick(3);
         x.crush(1);
         // beads "abbbb", "cc", "a"; the pattern is "aabaab", then "cabcab" (row 1 from column 1)
-        Check.dueText("beads", Check.beads(x), "abbbbcca");
-        Check.dueText("begins", Check.begins(x), "0 5 7");
+        Check.dueText("beads", x.beads(), "abbbbcca");
+        Check.dueText("begins", x.begins(), "0 5 7");
         Check.dueAll("count", x::count, 2, 3, 8, 3, 4, 1, 25, 35, 2, 3, 3, 39, 6);
         Check.argument("count -1", x, () -> x.count(-1));
         Check.argument("count 13", x, () -> x.count(13));
@@ -158,7 +158,7 @@ public final class LookTest {
     }
 
     private static void promise22Room() {
-        BeadSpirals x = Check.rich();
+        Workshop x = Workshop.rich();
         x.string(0, 40);
         Check.due("room of a full string", x.count(11), 0);
         x.set(2, 39);
@@ -168,14 +168,14 @@ public final class LookTest {
         x.join();
         Check.due("room of an empty string: the limit of 240 does not matter", x.count(11), 240);
         Check.due("colours in a chart of one cell", x.count(10), 1);
-        Check.type(x, "abcdef/6a").load();
+        x.retype("abcdef/6a").load();
         Check.due("colours in a chart of six", x.count(10), 6);
-        Check.type(x, "f").load();
+        x.retype("f").load();
         Check.due("colours that were in a greater chart do not count", x.count(10), 1);
     }
 
     private static void promise23() {
-        BeadSpirals x = new BeadSpirals();
+        Workshop x = new Workshop();
         x.set(0, 7);
         x.set(1, 8);
         x.set(2, 9);

@@ -7,7 +7,7 @@ public final class RandomRunsTest {
         "60a", "30a30b", "f", "ed"};
     private static final String SIGNS = "abcdef0123456789/ag1a/b";
 
-    private final BeadSpirals x = new BeadSpirals();
+    private final Workshop x = new Workshop();
     private final NaiveBeads naive = new NaiveBeads();
     private final int run;
     private long seed;

@@ -11,7 +11,7 @@ public final class TextTest {
     }
 
     private static void promise13() {
-        BeadSpirals x = new BeadSpirals();
+        Workshop x = new Workshop();
         Check.due("append 33", x.append(33), 1);
         Check.due("append 126", x.append(126), 2);
         Check.due("append is not undoable", x.count(12), 0);
@@ -28,7 +28,7 @@ public final class TextTest {
     }
 
     private static void promise14() {
-        BeadSpirals x = Check.type(new BeadSpirals(), "abc");
+        Workshop x = new Workshop().retype("abc");
         Check.due("clearBuffer", x.clearBuffer(), 3);
         Check.due("clearBuffer again", x.clearBuffer(), 0);
         Check.due("clearBuffer is not undoable", x.count(12), 0);
@@ -93,7 +93,7 @@ public final class TextTest {
     }
 
     private static void dueErrors(String text, int asChart, int asRow) {
-        BeadSpirals x = Check.type(new BeadSpirals(), text);
+        Workshop x = new Workshop().retype(text);
         long before = x.digest();
         Check.due("firstError(true) of " + text, x.firstError(true), asChart);
         Check.due("firstError(false) of " + text, x.firstError(false), asRow);
@@ -101,19 +101,19 @@ public final class TextTest {
     }
 
     private static void promise16() {
-        BeadSpirals x = new BeadSpirals();
+        Workshop x = new Workshop();
         x.buy(0, 10);
         x.string(0, 4);
         x.crush(0);
         x.unpick(1);
-        Check.type(x, "bc");
+        x.retype("bc");
         x.load();
         x.set(0, 9);
-        Check.type(x, "2e");
+        x.retype("2e");
         Check.due("undo set", x.undo(), 5);
         Check.due("around", x.setting(0), 6);
         Check.due("undo load", x.undo(), 4);
-        Check.dueText("cells", Check.cells(x), "a");
+        Check.dueText("cells", x.cells(), "a");
         Check.due("undo unpick", x.undo(), 3);
         Check.due("unpicked", x.count(9), 0);
         Check.due("beads", x.count(2), 3);
@@ -130,7 +130,7 @@ public final class TextTest {
     }
 
     private static void promise16DropsTheOldest() {
-        BeadSpirals x = new BeadSpirals();
+        Workshop x = new Workshop();
         for (int many = 1; many <= 9; many++) {
             x.buy(0, many);
             Check.due("saved states", x.count(12), Math.min(many, 6));
