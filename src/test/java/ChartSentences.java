@@ -228,6 +228,20 @@ final class ChartSentences {
             Check.dueText("all of 120 cells", greatest.cells(),
                     "bbbbbbaaaaaa/aaaaaabbbbbb" + "/bbbbbbbbbbbb/aaaaaaaaaaaa".repeat(4));
         });
+        for (String argument : new String[] {"`one`: a colour", "`other`: a colour"}) {
+            boolean isOne = argument.startsWith("`one`");
+            Sentence.holds(4, argument, () -> {
+                for (int colour : new int[] {0, 5}) {
+                    Workshop x = Workshop.withChart("abf");
+                    Check.due("recolour", isOne ? x.recolour(colour, 1) : x.recolour(1, colour), 2);
+                    Check.dueText("chart", x.cells(), colour == 0 ? "baf" : "afb");
+                }
+                for (int colour : new int[] {-1, 6}) {
+                    Twins.refusedAsArgument(() -> Workshop.withChart("abf"),
+                            x -> isOne ? x.recolour(colour, 1) : x.recolour(1, colour));
+                }
+            });
+        }
         Sentence.holds(4, "Undoable.", () -> {
             Twins.undoable(3, () -> Workshop.withChart("abc/bcd"), x -> x.recolour(0, 1));
             Twins.undoable(3, () -> Twins.filled(Workshop.withChart("abc/bcd")),

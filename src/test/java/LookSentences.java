@@ -22,6 +22,20 @@ final class LookSentences {
     // ---- promise 17
 
     private static void cell() {
+        Sentence.holds(17, "`row`: its row", () -> {
+            Supplier<Workshop> made = () -> Workshop.withChart("ab/cd/ef");
+            Twins.answered(0, made, x -> x.cell(0, 0));
+            Twins.answered(4, made, x -> x.cell(2, 0));
+            Twins.refusedAsIndex(made, x -> x.cell(-1, 0));
+            Twins.refusedAsIndex(made, x -> x.cell(3, 0));
+        });
+        Sentence.holds(17, "`column`: its column", () -> {
+            Supplier<Workshop> made = () -> Workshop.withChart("abc/def");
+            Twins.answered(0, made, x -> x.cell(0, 0));
+            Twins.answered(2, made, x -> x.cell(0, 2));
+            Twins.refusedAsIndex(made, x -> x.cell(0, -1));
+            Twins.refusedAsIndex(made, x -> x.cell(0, 3));
+        });
         Sentence.holds(17, "Returns its colour.", () -> {
             Workshop x = Workshop.withChart("abc/def");
             for (int i = 0; i < 6; i++) {
@@ -118,6 +132,12 @@ final class LookSentences {
             Workshop many = TermSentences.fortyEightStrings();
             Check.dueAll("the only one of string 47", what -> many.bead(47, what), 0, 0, 47, 0);
         });
+        Sentence.holds(19, "`bead`: its number", () -> {
+            Twins.answered(0, LookSentences::three, x -> x.bead(0, 0));
+            Twins.answered(1, LookSentences::three, x -> x.bead(3, 0));
+            Twins.refusedAsIndex(LookSentences::three, x -> x.bead(-1, 0));
+            Twins.refusedAsIndex(LookSentences::three, x -> x.bead(4, 0));
+        });
         Sentence.holds(19, "Throws `IndexOutOfBoundsException` if there is no such bead", () -> {
             for (int bead : new int[] {-1, 4, 5, 240, FAR[0], FAR[1]}) {
                 Twins.refusedAsIndex(LookSentences::three, x -> x.bead(bead, 0));
@@ -170,6 +190,12 @@ final class LookSentences {
             // round 40 begins in column 1 of three
             most.loaded("abc");
             Check.dueAll("behind 240 beads", what -> most.strand(1, what), 240, 0, 0, 0);
+        });
+        Sentence.holds(20, "`strand`: the number of the string", () -> {
+            Twins.answered(0, LookSentences::three, x -> x.strand(0, 0));
+            Twins.answered(4, LookSentences::three, x -> x.strand(2, 0));
+            Twins.refusedAsIndex(LookSentences::three, x -> x.strand(-1, 0));
+            Twins.refusedAsIndex(LookSentences::three, x -> x.strand(3, 0));
         });
         Sentence.holds(20, "Throws `IndexOutOfBoundsException` if there is no such string", () -> {
             for (int strand : new int[] {-1, 3, 4, 47, 48, FAR[0], FAR[1]}) {

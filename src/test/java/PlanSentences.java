@@ -156,6 +156,18 @@ final class PlanSentences {
             planned(6, () -> pairs.get().having(2, 5), 24, 2);
             planned(11, () -> pairs.get().having(2, 5), 24, 3);
         });
+        Sentence.holds(25, "of all rows of so few strings in the one that is told", () -> {
+            // hidden at 0, 2 and 4, and round for round again: three strings of up to 5 hold 11 beads
+            // from 0, 2, 6 or from 0, 4, 6 or from 0, 4, 8
+            Supplier<Workshop> made = () -> Workshop.withChart("ab").having(1, 0).having(2, 5);
+            planned(3, made, 11, -1);
+            planned(4, made, 11, 1);
+            planned(8, made, 11, 2);
+            planned(-1, made, 11, 3);
+            // a row of more strings could begin a string later, but is none of the fewest
+            planned(2, made, 9, -1);
+            planned(-1, made, 9, 2);
+        });
         Sentence.holds(25, "NONE if it is not possible, or there is no such string.", () -> {
             // knots are hidden at 0, 6, 12 and so on
             Supplier<Workshop> five = () -> Workshop.withChart("a5b").having(1, 0).having(2, 5);
@@ -413,6 +425,19 @@ final class PlanSentences {
                     new long[35], new long[] {0, 0, -1, 0}, new long[] {18, 0, 7, 14, 21, 28, 35, 42,
                         49}, new long[] {-1, 0, 0, -1, 0, 0});
             Twins.answered(hashOf(due), () -> new Workshop().having(2, 7), Workshop::digest);
+        });
+        Sentence.holds(31, "the length of the buffer and each of its character codes", () -> {
+            long[] ahead = join(new long[] {1, 1, 0, 1, 0, 0, 0, 0, 0, 0, 1, 40, 0},
+                    new long[] {6, 1, 40, 0}, new long[] {0}, new long[] {0, 0, 0, 0, 1, 0, 60},
+                    new long[35], new long[] {0, 0, -1, 0}, new long[] {3, 0, 40, 80, -1, -1, -1, -1,
+                        -1}, new long[] {-1, 0, 0, -1, 0});
+            for (String text : new String[] {"", "!", "~", "!~", "2ab/f", "!~".repeat(30)}) {
+                long[] codes = text.chars().asLongStream().toArray();
+                Twins.answered(hashOf(join(ahead, new long[] {text.length()}, codes)),
+                        () -> new Workshop().type(text), Workshop::digest);
+            }
+            Twins.answered(hashOf(join(ahead, new long[] {0})), () -> new Workshop().type("abc")
+                    .retype(""), Workshop::digest);
         });
         Sentence.holds(31, "the bits of wrongShare (as Double.doubleToLongBits)", () -> {
             long[] due = join(new long[] {1, 1, 1, 1, 1, 0, 0, 1, 0, 0, 1, 39, 2},

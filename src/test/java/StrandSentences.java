@@ -165,6 +165,14 @@ final class StrandSentences {
             Check.due("crush of 1", strings("a").get().crush(0), 0);
             Check.due("crush of 240", strings("60a60b60c60d").get().crush(239), 239);
         });
+        Sentence.holds(11, "`bead`: its number", () -> {
+            Workshop first = strings("abc").get();
+            first.crush(0);
+            due("crush 0", first, "bc", "0");
+            Workshop last = strings("abc").get();
+            last.crush(2);
+            due("crush 2", last, "ab", "0");
+        });
         Sentence.holds(11, "Throws `IndexOutOfBoundsException` if there is no such bead", () -> {
             Supplier<Workshop> made = strings("ab", "cde");
             Check.due("the first", made.get().crush(0), 4);
