@@ -6,8 +6,8 @@ final class ChartSentences {
     }
 
     static void hold() {
-        Sentence.holds(1, "a chart of one cell, without beads, and with an empty buffer",
-                ChartSentences::newObject);
+        Sentence.holds(1, "Creates a workshop with a chart of one cell, without beads, and with an "
+                + "empty buffer", ChartSentences::newObject);
         load();
         loadRefused();
         turn();
@@ -120,7 +120,18 @@ final class ChartSentences {
     // ---- promise 3
 
     private static void turn() {
-        Sentence.holds(3, "0: the columns come in the opposite order", () -> {
+        Sentence.holds(3, "Turns the chart.", () -> {
+            for (int how = 0; how < 5; how++) {
+                Workshop x = Workshop.richWith("ab/cd", "3ab").joined().strung("c").type("2f");
+                Workshop twin = Workshop.richWith("ab/cd", "3ab").joined().strung("c").type("2f");
+                x.turn(how);
+                Check.dueText("all but the chart", x.picture().substring(5),
+                        twin.picture().substring(5));
+                Check.due("how " + how + " changes the chart", x.cells().equals("ab/cd") ? 1 : 0, 0);
+                Check.due("length of the buffer", x.clearBuffer(), 2);
+            }
+        });
+        Sentence.holds(3, "`how`: 0: the columns come in the opposite order", () -> {
             turns(0, "abc/def", "cba/fed");
             turns(0, "abcd/effe", "dcba/effe");
             turns(0, "a/b", "a/b");
@@ -305,6 +316,15 @@ final class ChartSentences {
             Check.due("setting 3", new Workshop().set(3, 5), 0);
             Twins.refusedAsIndex(Workshop::new, x -> x.set(-1, 5));
             Twins.refusedAsIndex(Workshop::new, x -> x.set(4, 5));
+        });
+        Sentence.holds(5, "`value`: the new value", () -> {
+            for (int i = 0; i < 4; i++) {
+                for (int value : new int[] {least[i], least[i] + 2, greatest[i] - 1, greatest[i]}) {
+                    Workshop x = new Workshop();
+                    Check.due("set", x.set(i, value), first[i]);
+                    Check.due("setting " + i, x.setting(i), value);
+                }
+            }
         });
         Sentence.holds(5, "Returns the previous value.", () -> {
             for (int i = 0; i < 4; i++) {

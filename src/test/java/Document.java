@@ -5,60 +5,92 @@ import java.util.ArrayList;
 import java.util.LinkedHashMap;
 import java.util.List;
 import java.util.Map;
+import java.util.Set;
+import java.util.TreeSet;
+import java.util.regex.Matcher;
 import java.util.regex.Pattern;
 
 /**
- * Compares the sentences that have a test with the document: each one must stand there in these
- * words, and no line of a promise that names a boundary may be without one.
+ * Compares the tested sentences with the document, from its first line to its last: each one must
+ * stand there in these words, and no word of the document may be left without one.
  */
 final class Document {
     private static final Path PATH = Path.of("..", "shared", "DOC.md");
-    private static final Pattern BOUNDARY = Pattern.compile(
-            "Throws|Undoable| \\d+ to \\d+|NONE| if |fewest|greatest|least|first|last");
+    private static final Pattern WORD = Pattern.compile("\\w+");
+    private static final Pattern PROMISE = Pattern.compile("Promise (\\d+): (.*)");
+    /** What stands between two tested parts of a sentence. */
+    private static final Set<String> JOINING = Set.of("and", "or");
 
     private Document() {
     }
 
-    static void compare(List<Sentence.Quote> tested) throws IOException {
+    static void compare(List<Sentence.Quote> quotes) throws IOException {
         if (!Files.isRegularFile(PATH)) {
             System.out.println(PATH + " is not there: the sentences are not compared with it");
             return;
         }
-        Map<String, List<String>> sections = sections(Files.readAllLines(PATH));
-        for (Sentence.Quote quote : tested) {
-            List<String> lines = sections.getOrDefault(quote.heading(), List.of());
-            Check.due("lines with the words of " + quote, Math.min(1, linesWith(lines, quote)), 1);
+        List<String> lines = Files.readAllLines(PATH);
+        promisesInOrder(lines);
+        Map<String, List<String>> sections = sections(lines);
+        for (Sentence.Quote quote : quotes) {
+            long found = sections.getOrDefault(quote.heading(), List.of()).stream()
+                    .filter(line -> line.contains(quote.words())).count();
+            Check.due("lines with the words of " + quote, Math.min(1, found), 1);
         }
-        sections.forEach((heading, lines) -> {
-            if (heading.startsWith("Promise ")) {
-                lines.stream().filter(BOUNDARY.asPredicate())
-                        .forEach(line -> dueTested(heading, line, tested));
+        sections.forEach((heading, inside) ->
+                inside.forEach(line -> noWordIsLeft(heading, line, quotes)));
+    }
+
+    /** The heading of each promise bears its number and the name of its call. */
+    private static void promisesInOrder(List<String> lines) {
+        List<String> due = new ArrayList<>(List.of("A new object"));
+        Face.METHODS.forEach(method -> due.add(Face.nameOf(method)));
+        int promise = 0;
+        for (String line : lines) {
+            Matcher heading = PROMISE.matcher(line.replaceAll("^#+ ", ""));
+            if (line.startsWith("#") && heading.matches()) {
+                promise++;
+                Check.dueText("number of a promise", heading.group(1), "" + promise);
+                Check.dueText("its name", heading.group(2),
+                        promise > due.size() ? "none" : due.get(promise - 1));
             }
-        });
+        }
+        Check.due("promises", promise, due.size());
     }
 
     /** The lines under each heading, of which a promise's name is left off. */
     private static Map<String, List<String>> sections(List<String> lines) {
         Map<String, List<String>> sections = new LinkedHashMap<>();
         List<String> now = new ArrayList<>();
+        sections.put("", now);
         for (String line : lines) {
             if (line.startsWith("#")) {
                 now = new ArrayList<>();
                 sections.put(line.replaceAll("^#+ ", "").replaceAll("^(Promise \\d+):.*", "$1"), now);
-            } else if (!line.isEmpty()) {
+            } else if (!line.isEmpty() && !line.startsWith("```")) {
                 now.add(line);
             }
         }
         return sections;
     }
 
-    private static long linesWith(List<String> lines, Sentence.Quote quote) {
-        return lines.stream().filter(line -> line.contains(quote.words())).count();
-    }
-
-    private static void dueTested(String heading, String line, List<Sentence.Quote> tested) {
-        boolean found = tested.stream().anyMatch(
-                quote -> quote.heading().equals(heading) && line.contains(quote.words()));
-        Check.due("a test of " + heading + ", \"" + line + "\"", found ? 1 : 0, 1);
+    private static void noWordIsLeft(String heading, String line, List<Sentence.Quote> quotes) {
+        StringBuilder left = new StringBuilder(line);
+        for (Sentence.Quote quote : quotes) {
+            String words = quote.words();
+            if (quote.heading().equals(heading)) {
+                for (int i = line.indexOf(words); i >= 0; i = line.indexOf(words, i + 1)) {
+                    left.replace(i, i + words.length(), " ".repeat(words.length()));
+                }
+            }
+        }
+        Set<String> untested = new TreeSet<>();
+        for (Matcher word = WORD.matcher(left); word.find();) {
+            if (!JOINING.contains(word.group())) {
+                untested.add(word.group());
+            }
+        }
+        Check.dueText("words of " + heading + ", \"" + line + "\", that have no test",
+                untested.toString(), "[]");
     }
 }

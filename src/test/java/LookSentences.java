@@ -85,7 +85,7 @@ final class LookSentences {
             Check.dueAll("pattern 0", what -> made.get().pattern(0, what), 0, 0, 0, 0);
             Check.dueAll("pattern 239", what -> made.get().pattern(239, what), 1, 39, 3, 4);
         });
-        Sentence.holds(18, "0: the colour; 1: the round; 2: the row of the chart; 3: the column of the "
+        Sentence.holds(18, "`what`: 0: the colour; 1: the round; 2: the row of the chart; 3: the column of the "
                 + "chart", () -> {
             Workshop x = Workshop.withChart("abcd/bcde/cdef");
             Check.dueAll("pattern 5", what -> x.pattern(5, what), 1, 0, 0, 1);
@@ -118,7 +118,7 @@ final class LookSentences {
     }
 
     private static void bead() {
-        Sentence.holds(19, "0: its colour; 1: 1 if it is wrong, otherwise 0; 2: its string; 3: its place "
+        Sentence.holds(19, "`what`: 0: its colour; 1: 1 if it is wrong, otherwise 0; 2: its string; 3: its place "
                 + "on its string, from 0", () -> {
             Workshop x = three();
             Check.dueAll("the first of string 0", what -> x.bead(0, what), 0, 0, 0, 0);
@@ -170,7 +170,7 @@ final class LookSentences {
     // ---- promise 20
 
     private static void strand() {
-        Sentence.holds(20, "0: the number at which it begins; 1: its beads; 2: 1 if the knot ahead of it "
+        Sentence.holds(20, "`what`: 0: the number at which it begins; 1: its beads; 2: 1 if the knot ahead of it "
                 + "is hidden, otherwise 0, NONE for string 0; 3: its wrong beads", () -> {
             Workshop x = three();
             Check.dueAll("string 0", what -> x.strand(0, what), 0, 3, -1, 1);
@@ -236,7 +236,7 @@ final class LookSentences {
             Check.dueAll("colour 0", what -> x.colour(0, what), 0, 0, 0, 0, 0, 0);
             Check.dueAll("colour 5", what -> x.colour(5, what), 3, 3, 0, 0, 1, 0);
         });
-        Sentence.holds(21, "0: its stock; 1: beads that were bought so far; 2: beads that are strung; 3: "
+        Sentence.holds(21, "`what`: 0: its stock; 1: beads that were bought so far; 2: beads that are strung; 3: "
                 + "beads that were crushed so far; 4: cells of the chart; 5: beads that are strung and "
                 + "wrong", () -> {
             Workshop x = Workshop.withChart("aab/bca").bought(0, 20).bought(1, 10).bought(2, 5);
@@ -276,7 +276,7 @@ final class LookSentences {
 
     private static void countOfThings() {
         Supplier<Workshop> greatest = () -> Workshop.withChart(TermSentences.GREATEST);
-        Sentence.holds(22, "0: rows; 1: columns;", () -> {
+        Sentence.holds(22, "`what`: 0: rows; 1: columns;", () -> {
             counts("rows at first", 0, 1, Workshop::new);
             counts("columns at first", 1, 1, Workshop::new);
             counts("most rows", 0, 10, greatest);

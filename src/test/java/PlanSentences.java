@@ -73,7 +73,7 @@ final class PlanSentences {
     }
 
     private static void fewestStrings() {
-        Sentence.holds(25, "no string has more beads than it can hold", () -> {
+        Sentence.holds(25, "so that no string has more beads than it can hold", () -> {
             Supplier<Workshop> five = () -> new Workshop().having(2, 5);
             planned(1, five, 5, -1);
             planned(2, five, 6, -1);
@@ -128,16 +128,16 @@ final class PlanSentences {
     }
 
     private static void beginsOfStrings() {
-        Sentence.holds(25, "NONE: the fewest strings; 0 to 47: the number at which this string begins",
-                () -> {
+        Sentence.holds(25, "`strand`: NONE: the fewest strings; 0 to 47: the number at which this "
+                + "string begins", () -> {
             int[] begins = {0, 40, 80, 120, 160, 200};
             for (int strand = 0; strand < 48; strand++) {
                 planned(strand < 6 ? begins[strand] : -1, Workshop::new, 240, strand);
             }
             planned(235, () -> new Workshop().having(2, 5), 240, 47);
         });
-        Sentence.holds(25, "string 1 begins as late as it can, then string 2 as late as it can then",
-                () -> {
+        Sentence.holds(25, "string 1 begins as late as it can, then string 2 as late as it can "
+                + "then, and so on", () -> {
             Supplier<Workshop> eight = () -> eachThird(8);
             // from 0 to 6, to 12, to 18
             planned(6, eight, 20, 1);
@@ -156,7 +156,7 @@ final class PlanSentences {
             planned(6, () -> pairs.get().having(2, 5), 24, 2);
             planned(11, () -> pairs.get().having(2, 5), 24, 3);
         });
-        Sentence.holds(25, "of all rows of so few strings in the one that is told", () -> {
+        Sentence.holds(25, "where of all rows of so few strings in the one that is told", () -> {
             // hidden at 0, 2 and 4, and round for round again: three strings of up to 5 hold 11 beads
             // from 0, 2, 6 or from 0, 4, 6 or from 0, 4, 8
             Supplier<Workshop> made = () -> Workshop.withChart("ab").having(1, 0).having(2, 5);
@@ -233,8 +233,8 @@ final class PlanSentences {
     // ---- promise 27
 
     private static void bestCrush() {
-        Sentence.holds(27, "the greatest number of beads that could be left if some beads were crushed",
-                () -> {
+        Sentence.holds(27, "Returns the greatest number of beads that could be left if some beads "
+                + "were crushed", () -> {
             Twins.answered(0, Workshop::new, Workshop::bestCrush);
             left(0, "f", "9a");
             left(1, "a", "a");

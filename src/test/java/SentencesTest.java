@@ -1,8 +1,9 @@
 import java.io.IOException;
 
-/** For each sentence of the document that names a boundary, the test that bears its words. */
+/** For each sentence of the document the test that bears its words. */
 public final class SentencesTest {
     public static void main(String[] args) throws IOException {
+        FaceSentences.hold();
         TermSentences.hold();
         TextSentences.hold();
         UndoSentences.hold();
@@ -11,8 +12,21 @@ public final class SentencesTest {
         StrandSentences.hold();
         LookSentences.hold();
         PlanSentences.hold();
-        Document.compare(Sentence.tested());
-        System.out.println(Sentence.tested().size() + " sentences have a test of their own");
+        PurposeSentences.hold();
+        notPromised();
+        Document.compare(Sentence.quoted());
+        System.out.println(Sentence.tested() + " sentences have a test of their own");
         Check.finish();
+    }
+
+    private static void notPromised() {
+        String heading = "Not promised";
+        Sentence.leavesFree(heading, "How the state is held inside the object is free, as are the "
+                + "speed of each call, the text of toString and the behaviour of equals and "
+                + "hashCode.");
+        Sentence.leavesFree(heading,
+                "Use of one object from several threads at once is not promised to be safe.");
+        Sentence.leavesFree(heading, "Nothing is promised beyond the answers and state changes "
+                + "described above, and nothing about an object after its 512th call.");
     }
 }

@@ -14,9 +14,12 @@ final class TermSentences {
     }
 
     static void hold() {
-        Sentence.holds("What it is", "An object is used for at most 512 calls",
-                TermSentences::the512thCall);
+        whatItIs();
         Sentence.holds("Terms", "divisions are rounded down", TermSentences::roundedDown);
+        Sentence.holds("Terms", "unless something else is told.", () -> {
+            Check.dueDouble("1 / 3", Workshop.richWith("ab", "abc").wrongShare(), 1.0 / 3.0);
+            Check.dueDouble("2 / 3", Workshop.richWith("ab", "acc").wrongShare(), 2.0 / 3.0);
+        });
         Sentence.holds("Chart", "There are 6 colours, numbered from 0.", TermSentences::colours);
         Sentence.holds("Chart", "A chart has 1 to 10 rows and 1 to 12 columns",
                 TermSentences::sizes);
@@ -24,7 +27,12 @@ final class TermSentences {
                 TermSentences::eachCell);
         Sentence.holds("Chart", "at first it has one cell, of colour 0", TermSentences::oneCell);
         Sentence.holds("Chart", "the round of the bead n is n / A", TermSentences::rounds);
-        Sentence.holds("Chart", "in the row (round modulo the number of rows)",
+        Sentence.holds("Chart", "The pattern tells a colour for each bead 0, 1, 2 and so on.",
+                TermSentences::eachBead);
+        Sentence.holds("Chart", "With the around A (setting 0) and the slant S (setting 1):",
+                TermSentences::bySettings);
+        Sentence.holds("Chart", "the pattern's colour for it is that of the chart in the row (round "
+                + "modulo the number of rows)",
                 TermSentences::rowsGoRound);
         Sentence.holds("Chart",
                 "the column ((n modulo A) + S * round) modulo the number of columns",
@@ -37,8 +45,48 @@ final class TermSentences {
                 "If several exceptions apply, the one that is named first in the throws clause is thrown.",
                 TermSentences::severalExceptions);
         Sentence.holds("Exceptions", "what would be; nothing is changed", TermSentences::looks);
-        Sentence.holds("Exceptions", "`NONE = -1`",
+        Sentence.holds("Exceptions", "The constants: `NONE = -1`",
                 () -> Check.due("NONE", BeadSpirals.NONE, -1));
+        Sentence.holds("Exceptions", "There is nothing to return.", TermSentences::nothing);
+    }
+
+    private static void whatItIs() {
+        String heading = "What it is";
+        Sentence.holds(heading, "Beadwork by a chart: colours in rows that are read along a spiral, "
+                + "beads that are bought, strung one behind the other, crushed and unpicked, strings "
+                + "that hold only so many beads and are joined by knots, which are hidden under beads "
+                + "of one colour, wrong beads, what would be, charts and rows of beads as texts, and "
+                + "undo.", TermSentences::allOfIt);
+        Sentence.holds(heading, "An object is used for at most 512 calls after it has been made;",
+                TermSentences::the512thCall);
+        Sentence.leavesFree(heading, "what later calls answer is free.");
+    }
+
+    /** The pattern is "aabaab" and then "bbbbbb". */
+    private static void allOfIt() {
+        Workshop x = new Workshop();
+        Check.due("a chart as a text", x.type("2ab/3b").load(), 2);
+        for (int colour = 0; colour < 3; colour++) {
+            Check.due("beads that are bought", x.buy(colour, 10), 10);
+        }
+        Check.due("beads along the spiral", x.stringNext(5), 5);
+        Check.due("a row of beads as a text", x.type("bc").stringRow(), 7);
+        Check.dueText("one behind the other", x.beads(), "aabaabc");
+        Check.due("wrong beads", x.firstWrong(), 6);
+        Check.due("what would be", x.bestCrush(), 6);
+        Check.due("crushed", x.crush(6), 6);
+        Check.due("wrong beads then", x.firstWrong(), -1);
+        Check.due("the hiding colour", x.set(3, 1), 0);
+        Check.due("a knot under a bead of it", x.join(), 1);
+        Check.due("what strings hold", x.set(2, 5), 40);
+        Twins.refusedAsState(() -> new Workshop().bought(1, 10).having(2, 5), y -> y.string(1, 6));
+        Check.due("a string that is full", x.string(1, 5), 11);
+        // knots could be hidden at 2, and from 5 to 11: from 0 to 5 to 10
+        Check.due("the fewest strings", x.plan(11, -1), 3);
+        Check.due("unpicked", x.unpick(3), 8);
+        Check.due("back in the stock", x.colour(1, 0), 6);
+        Check.due("undo", x.undo(), 5);
+        Check.due("beads behind undo", x.count(2), 11);
     }
 
     private static void the512thCall() {
@@ -58,6 +106,15 @@ final class TermSentences {
         Check.due("11 / 6", x.pattern(11, 1), 1);
         Check.due("239 / 6", x.pattern(239, 1), 39);
         Check.due("239 / 15", x.having(0, 15).pattern(239, 1), 15);
+    }
+
+    /** All calls that can answer NONE. */
+    private static void nothing() {
+        Twins.answered(BeadSpirals.NONE, Workshop::new, x -> x.strand(0, 2));
+        Twins.answered(BeadSpirals.NONE, Workshop::new, x -> x.plan(1, 1));
+        Twins.answered(BeadSpirals.NONE, () -> new Workshop().having(3, 1), x -> x.plan(41, -1));
+        Twins.answered(BeadSpirals.NONE, Workshop::new, Workshop::firstWrong);
+        Twins.answered(BeadSpirals.NONE, Workshop::new, Workshop::bestTurn);
     }
 
     // ---- the chart
@@ -119,6 +176,35 @@ final class TermSentences {
         }
     }
 
+    private static void eachBead() {
+        Workshop x = Workshop.withChart(GREATEST).having(0, 7).having(1, 3);
+        for (int bead = 0; bead < 240; bead++) {
+            int round = bead / 7;
+            Check.due("colour of bead " + bead, x.pattern(bead, 0),
+                    GREATEST_ROWS[round % 10].charAt((bead % 7 + 3 * round) % 12) - 'a');
+        }
+    }
+
+    private static void bySettings() {
+        Supplier<Workshop> made = () -> Workshop.withChart("abcd");
+        firstTwelve("at first", made.get(), "abcdabbcdabc");
+        firstTwelve("around 4", made.get().having(0, 4), "abcdbcdacdab");
+        firstTwelve("around 12", made.get().having(0, 12), "abcdabcdabcd");
+        firstTwelve("slant 0", made.get().having(1, 0), "abcdababcdab");
+        firstTwelve("slant 2", made.get().having(1, 2), "abcdabcdabcd");
+        firstTwelve("around 4 and slant 3", made.get().having(0, 4).having(1, 3), "abcddabccdab");
+        firstTwelve("by what a string holds", made.get().having(2, 5), "abcdabbcdabc");
+        firstTwelve("by the hiding colour", made.get().having(3, 2), "abcdabbcdabc");
+    }
+
+    private static void firstTwelve(String what, Workshop x, String due) {
+        StringBuilder colours = new StringBuilder();
+        for (int bead = 0; bead < 12; bead++) {
+            colours.append((char) ('a' + x.pattern(bead, 0)));
+        }
+        Check.dueText("the pattern " + what, colours.toString(), due);
+    }
+
     private static void rowsGoRound() {
         Workshop x = Workshop.withChart("a/b/c").having(0, 3);
         Check.due("round 2", x.pattern(8, 2), 2);
@@ -164,7 +250,7 @@ final class TermSentences {
 
     private static void beads() {
         String heading = "Beads and strings";
-        Sentence.holds(heading, "a stock of beads of each colour, at first 0", () -> {
+        Sentence.holds(heading, "There is a stock of beads of each colour, at first 0", () -> {
             for (int colour = 0; colour < 6; colour++) {
                 int one = colour;
                 Check.due("stock of " + colour, new Workshop().colour(colour, 0), 0);
@@ -191,6 +277,7 @@ final class TermSentences {
                 TermSentences::fullString);
         Sentence.holds(heading, "if that becomes less later, a string keeps what it has",
                 TermSentences::keepsWhatItHas);
+        Sentence.holds(heading, "Between two strings there is a knot;", TermSentences::knots);
         Sentence.holds(heading,
                 "it is hidden if the pattern's colour for the first bead of the second one (that is, "
                 + "for the number at which it begins) is the hiding colour (setting 3)",
@@ -310,6 +397,25 @@ final class TermSentences {
         Check.due("room of five", x.count(11), 0);
         x.unpick(1);
         Check.due("string a fifth", x.string(1, 1), 5);
+    }
+
+    /** No knot is hidden here, so that all can be counted. */
+    private static void knots() {
+        Workshop x = Workshop.rich().having(3, 5);
+        for (int strings = 1; strings <= 48; strings++) {
+            Check.due("knots of " + strings + " strings", x.count(5), strings - 1);
+            if (strings < 48) {
+                x.string(0, 1);
+                Check.due("knot behind string " + (strings - 1), x.join(), 0);
+            }
+        }
+        Check.due("ahead of string 0", x.strand(0, 2), -1);
+        Check.due("ahead of string 1", x.strand(1, 2), 0);
+        Check.due("ahead of string 47", x.strand(47, 2), 0);
+        x.crush(20);
+        Check.due("knots when a string is taken away", x.count(5), 46);
+        x.unpick(6);
+        Check.due("knots when six beads are unpicked", x.count(5), 40);
     }
 
     private static void hiddenKnots() {

@@ -53,7 +53,7 @@ final class TextSentences {
             isNoRow("");
             Twins.answered(0, Workshop::new, x -> x.firstError(false));
         });
-        Sentence.holds(heading, "without anything between them", () -> {
+        Sentence.holds(heading, "one behind the other without anything between them", () -> {
             for (String between : new String[] {"/", ",", "-", ".", "_", ":", "0"}) {
                 isNoRow("a" + between + "b");
                 errorsOf("a" + between + "b", between.equals("/") ? 3 : 1, 1);
