@@ -317,6 +317,7 @@ final class PlanSentences {
             // by 4 a round of "a" and one of "b": none would be wrong
             turned(-1, "a10b", "6a5b");
             turned(-1, "a11b", "6a5b");
+            turned(-1, "a10b", "6a");
             turned(4, "a9b", "6a5b");
             turned(4, "a/b/c/d/e/f/a/b/c/d", "abcdefbcdefa");
             Twins.refusedAsState(() -> Workshop.richWith("a10b", "6a5b"), x -> x.turn(4));
